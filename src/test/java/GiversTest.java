@@ -105,6 +105,7 @@ public final class GiversTest {
         Check.due("inByBook(5) after", 0, x.inByBook(5));
         Check.due("in(6) stays", 8, x.in(6));
         Check.due("leave(5) again", 0, x.leave(5));
+        Check.due("inByBook(5) after both", 0, x.inByBook(5));
         Check.due("total after", 8, x.total());
         Check.due("nothing went out", 0, x.out());
         Check.due("leave(7)", 0, x.leave(7));
