@@ -80,6 +80,7 @@ public final class FaceTest {
     }
 
     private static void constants() {
+        Check.says("NONE = -1: There is none. SILENT = 0, YES = 1, NO = 2: Votes.");
         Check.due("NONE", -1, Quorumfund.NONE);
         Check.due("SILENT", 0, Quorumfund.SILENT);
         Check.due("YES", 1, Quorumfund.YES);
